@@ -428,7 +428,7 @@ public final class GateWheel {
 
     /** Takes a text apart into TOKENS. */
     private static final class Lexer {
-        /** What is no TOKEN, and the kinds of TOKENS; a sign's kind is its byte. */
+        /** What is no TOKEN, the text's end, and the kinds of TOKENS; a sign's kind is its byte. */
         static final int BAD = 0;
         static final int END = 1;
         static final int WORD = 2;
@@ -509,7 +509,7 @@ public final class GateWheel {
     }
 
     /**
-     * Reads a text as a CIRCUIT, or finds its FAULT. No TOKEN nests in another, so one state, moved on by each
+     * Reads a text as a CIRCUIT, or finds its FAULT. Nothing in a CIRCUIT nests, so one state, moved on by each
      * TOKEN, is enough. Its steps answer false once there is a FAULT.
      */
     private static final class Reader {
@@ -791,8 +791,8 @@ public final class GateWheel {
         }
 
         private int gateHere() {
-            for (int i = 0; i < GATE_WORDS.length; i++) {
-                if (isWord(GATE_WORDS[i])) {
+            for (int i = 0; i < GATE_WORDS.length && lexer.kind == Lexer.WORD; i++) {
+                if (lexer.word == GATE_WORDS[i]) {
                     return i;
                 }
             }
