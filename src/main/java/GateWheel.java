@@ -244,7 +244,7 @@ public final class GateWheel {
             case 2:
                 return hasWheel ? spinning.time : NONE;
             case 3:
-                return hasWheel ? quiet() : NONE;
+                return hasWheel ? spinning.quiet() : NONE;
             case 4:
                 return hasWheel ? spinning.toCome : NONE;
             case 5:
@@ -293,10 +293,6 @@ public final class GateWheel {
             worldsAreFresh = true;
         }
         return true;
-    }
-
-    private int quiet() {
-        return spinning.toCome == 0 ? 1 : 0;
     }
 
     /** The NODES of a CIRCUIT, by number. */
@@ -1120,6 +1116,11 @@ public final class GateWheel {
                 waveCounts[node]++;
             }
             return 1;
+        }
+
+        /** What was put and is not looked at yet may still bring changes, though none is told. */
+        int quiet() {
+            return toCome == 0 && changed == 0 ? 1 : 0;
         }
 
         int changeOf(int node, int k) {

@@ -633,7 +633,7 @@ final class Model {
             case 2:
                 return wheel == null ? -1 : time;
             case 3:
-                return wheel == null ? -1 : toCome == 0 ? 1 : 0;
+                return wheel == null ? -1 : toCome == 0 && changed.isEmpty() ? 1 : 0;
             case 4:
                 return wheel == null ? -1 : toCome;
             case 5:

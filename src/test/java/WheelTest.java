@@ -8,6 +8,8 @@ public final class WheelTest {
         delays();
         putBack();
         toldAnew();
+        quietAfterPut();
+        quietWithoutGates();
         busesAtOnce();
         busOnBus();
         longWave();
@@ -141,6 +143,49 @@ public final class WheelTest {
         Check.due("wave(0, 2)", x.wave(0, 2), -1);
         Check.due("run(9)", x.run(9), 0);
         Check.due("wave(1, 0)", x.wave(1, 0), -1);
+    }
+
+    /** Until what was put is looked at, the wheel is not at rest, though no GATE has been told a value. */
+    private static void quietAfterPut() {
+        GateWheel x = Check.bench("in a; n = not ( a ) 3; x = and ( a, n );");
+        x.wheel();
+        Check.due("about(3) at first", x.about(3), 1);
+        x.put(0, 2);
+        Check.due("about(3), put with the same value", x.about(3), 1);
+        x.put(0, 4);
+        x.put(1, 0);
+        Check.due("about(3), not put", x.about(3), 1);
+        x.put(0, 0);
+        Check.due("about(3), put", x.about(3), 0);
+        Check.due("about(4), put", x.about(4), 0);
+        Check.due("run(1001)", x.run(1001), -1);
+        Check.due("about(3), not run", x.about(3), 0);
+        Check.due("run(0)", x.run(0), 0);
+        Check.due("about(3), looked at", x.about(3), 0);
+        Check.due("about(4), looked at", x.about(4), 2);
+        Check.due("run(2)", x.run(2), 1);
+        Check.due("about(3), n to come", x.about(3), 0);
+        Check.due("run(1)", x.run(1), 1);
+        Check.due("about(3), at rest", x.about(3), 1);
+        x.put(0, 1);
+        Check.due("about(3), put later", x.about(3), 0);
+        x.wheel();
+        Check.due("about(3), begun anew", x.about(3), 1);
+        x.put(0, 1);
+        x.put(0, 2);
+        Check.due("about(3), put back", x.about(3), 0);
+        Check.due("run(0)", x.run(0), 0);
+        Check.due("about(3), put back and looked at", x.about(3), 1);
+    }
+
+    private static void quietWithoutGates() {
+        GateWheel x = Check.bench("in a,e;bus u;u<if1(a,e);");
+        Check.set(x, 0, 1);
+        x.wheel();
+        x.put(0, 1);
+        Check.due("about(3), a BUS to follow", x.about(3), 0);
+        Check.due("run(0)", x.run(0), 1);
+        Check.due("about(3), the BUS followed", x.about(3), 1);
     }
 
     /** Of two values told for one time the last comes alone, and need be no change. */
