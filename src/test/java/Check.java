@@ -18,6 +18,13 @@ final class Check {
         due(call, got ? 1 : 0, want ? 1 : 0);
     }
 
+    static void same(String call, String got, String want) {
+        if (!got.equals(want)) {
+            wrong++;
+            System.out.println(call + " left " + got + ", due is " + want);
+        }
+    }
+
     static void finish() {
         if (wrong != 0) {
             System.out.println(wrong + " answers are not as due");
@@ -73,6 +80,41 @@ final class Check {
 
     static int on(GateWheel x, String name) {
         return x.on(node(x, name));
+    }
+
+    /** All that can be seen without a change, but for the TAPE: what a refused call must leave as it was. */
+    static String state(GateWheel x) {
+        StringBuilder s = new StringBuilder("faults ").append(x.fault(0)).append(' ').append(x.fault(1));
+        return s.append(' ').append(stateBesideFault(x)).toString();
+    }
+
+    /** As state, without the FAULT of the latest read(). */
+    static String stateBesideFault(GateWheel x) {
+        StringBuilder s = new StringBuilder("about");
+        for (int what = 0; what <= 5; what++) {
+            s.append(' ').append(x.about(what));
+        }
+        s.append(" legal ").append(x.legal()).append(" of ").append(x.worlds());
+        for (int i = 0; i < x.about(0); i++) {
+            s.append(" | ").append(i).append(':');
+            for (int what = 0; what <= 3; what++) {
+                s.append(' ').append(x.node(i, what));
+            }
+            s.append(" value ").append(x.value(i)).append(" sharp ").append(x.sharp(i)).append(" on ").append(x.on(i));
+            for (int k = 0; k < 20 && x.wave(i, k) != -1; k++) {
+                s.append(" wave ").append(x.wave(i, k));
+            }
+        }
+        return s.toString();
+    }
+
+    /** "in n0,n1, ..", without the ; at its end. */
+    static String inputs(int n) {
+        StringBuilder s = new StringBuilder("in n0");
+        for (int i = 1; i < n; i++) {
+            s.append(",n").append(i);
+        }
+        return s.toString();
     }
 
     /** Sets the INPUTS 0, 1, .. to these values. */
