@@ -19,6 +19,8 @@ public final class ReadEdgeTest {
 
     private static void text() {
         atMostTwoThousandBytes();
+        fullOfNames();
+        notBehindTheEnd();
         noLine();
         inNames();
         busNames();
@@ -105,6 +107,7 @@ public final class ReadEdgeTest {
         fault(blanks + "in a,", 2, 2000);
         fault(blanks + "in a#", 1, 1999);
         fault(" ".repeat(1999) + "a", 2, 2000);
+        fault(" ".repeat(1986) + "in a;g=not(a)3", 2, 2000);
         fault(" ".repeat(1999) + ";", 2, 1999);
         StringBuilder full = new StringBuilder("in a,b;");
         for (int i = 2; i < 60; i++) {
@@ -112,6 +115,50 @@ public final class ReadEdgeTest {
         }
         Check.due("length of 60 long lines", full.length() < 2000, true);
         good(full + " ".repeat(2000 - full.length()), 60);
+    }
+
+    /** "at most 2,000 bytes", "60 at most", "2 to 6", "6 at most each": as many NAMES as they leave room for. */
+    private static void fullOfNames() {
+        StringBuilder text = new StringBuilder("in a;");
+        for (int i = 0; i < 17; i++) {
+            text.append(i == 0 ? "bus " : ",").append(shortName(i));
+        }
+        text.append(";");
+        for (int i = 0; i < 17; i++) {
+            text.append((shortName(i) + "<if1(a,a);").repeat(6));
+        }
+        for (int i = 17; i < 59; i++) {
+            text.append(shortName(i)).append("=or(a,a,a,a,a,a);");
+        }
+        Check.due("at most 2,000, not " + text.length(), text.length() <= 2000, true);
+        GateWheel x = good(text.toString(), 60);
+        for (int i = 1; i < 60; i++) {
+            Check.due("node(" + i + ", 1)", x.node(i, 1), 6);
+            Check.due("node(" + i + ", 3)", x.node(i, 3), 1);
+        }
+        String cut = text.substring(0, text.length() - 3);
+        fault(cut + "z);", 4, cut.length());
+    }
+
+    /** b to y, then bb to by and cb to cy: short, and none of the words that are no NAMES. */
+    private static String shortName(int i) {
+        String letter = String.valueOf((char) ('b' + i % 24));
+        return i < 24 ? letter : (char) ('a' + i / 24) + letter;
+    }
+
+    /** "the end: the text's length": what end() cut off is no part of a TOKEN. */
+    private static void notBehindTheEnd() {
+        String text = "in ab;g=not(ab)34;#x";
+        int[] faults = {0, 2, 2, 2, 2, 2, 0, 2, 2, 2, 2, 2, 2, 2, 2, 2, 2, 1, 1, 1, 1};
+        int[] places = {-1, 1, 2, 3, 4, 5, -1, 7, 8, 8, 8, 11, 12, 13, 14, 15, 16, 15, 15, 15, 15};
+        for (int n = 0; n <= text.length(); n++) {
+            GateWheel x = new GateWheel();
+            Check.tape(x, text);
+            x.end(n);
+            x.read();
+            Check.due("fault(0) of the first " + n, x.fault(0), faults[n]);
+            Check.due("fault(1) of the first " + n, x.fault(1), places[n]);
+        }
     }
 
     /** "net = {line}": also none. */
@@ -415,8 +462,12 @@ public final class ReadEdgeTest {
         String six = "in a;bus b,c;" + "b<if1(a,a);".repeat(3) + "b<if0(a,a);".repeat(3);
         fault(six + "b<if1(a,a);", 2, six.length());
         fault(six + "\nb <if0(a,a);", 2, six.length() + 1);
-        good(six + "c<if1(a,a);".repeat(6), 3);
+        // They are counted anew in each text.
+        GateWheel x = good(six, 3);
+        Check.due("read() of six again", Check.read(x, six), 3);
+        Check.due("read() of six once more", Check.read(x, six), 3);
         String both = six + "c<if1(a,a);".repeat(6);
+        good(both, 3);
         fault(both + "c<if0(a,a);", 2, both.length());
         fault(both + "b<if0(a,a);", 2, both.length());
     }
@@ -750,13 +801,18 @@ public final class ReadEdgeTest {
         for (int i = 0; i < names.length; i++) {
             Check.due("LEVEL of " + names[i], x.node(Check.node(x, names[i]), 3), want[i]);
         }
-        StringBuilder chain = new StringBuilder("in n0;");
+        // Sixty, told backwards and forwards.
+        StringBuilder back = new StringBuilder();
+        StringBuilder forth = new StringBuilder("in n0;");
         for (int i = 59; i > 0; i--) {
-            chain.append("n").append(i).append("=buf(n").append(i - 1).append(");");
+            back.append("n").append(i).append("=buf(n").append(i - 1).append(");");
+            forth.append("n").append(60 - i).append("=buf(n").append(59 - i).append(");");
         }
-        GateWheel y = good(chain.toString(), 60);
-        for (int i = 0; i < 60; i++) {
-            Check.due("LEVEL of n" + i, y.node(Check.node(y, "n" + i), 3), i);
+        for (String text : new String[] {back + "in n0;", forth.toString()}) {
+            GateWheel y = good(text, 60);
+            for (int i = 0; i < 60; i++) {
+                Check.due("LEVEL of n" + i, y.node(Check.node(y, "n" + i), 3), i);
+            }
         }
     }
 

@@ -27,6 +27,7 @@ public final class WorldsEdgeTest {
         eachBus();
         busWithoutDrivers();
         inAWorldEachIsZeroOrOne();
+        asAboveInAWorld();
     }
 
     private static void sharp() {
@@ -44,7 +45,7 @@ public final class WorldsEdgeTest {
     }
 
     private static void flicker() {
-        flickerOfTheLastNode();
+        flickerOfTheLastAndTheFirst();
         sameWithBoth();
         othersAsTheyAreInFlicker();
         kthFlicker();
@@ -173,6 +174,7 @@ public final class WorldsEdgeTest {
         Check.due("legal()", x.legal(), 0);
         Check.due("worlds()", x.worlds(), 1);
         Check.due("legal() without BUSES", Check.bench("in a;").legal(), 2);
+        Check.due("legal() with nothing but a BUS", Check.bench("bus b;").legal(), 0);
     }
 
     /** "In a WORLD each NODE is 0 or 1: as above; a BUS has d of its one DRIVER that is ON". */
@@ -188,6 +190,27 @@ public final class WorldsEdgeTest {
         Check.due("sharp of x with the first ON", x.sharp(Check.node(x, "x")), 0);
         x.set(1, 0);
         Check.due("sharp of x with the second ON", x.sharp(Check.node(x, "x")), 1);
+    }
+
+    /** "In a WORLD each NODE is 0 or 1: as above": all GATES, with all that they can take in. */
+    private static void asAboveInAWorld() {
+        String[] gates = {"and", "or", "nand", "nor", "xor", "xnor"};
+        for (int n = 2; n <= 6; n++) {
+            String names = Check.inputs(n).substring(3);
+            StringBuilder text = new StringBuilder(Check.inputs(n)).append(";i=not(n1);f=buf(n1);m=mux(n1,n0,i);k=mux(n1,i,f);");
+            for (String gate : gates) {
+                text.append("g").append(gate).append("=").append(gate).append("(").append(names).append(");");
+            }
+            for (int code = 0; code < 1 << n; code++) {
+                GateWheel x = Check.bench(text.toString());
+                for (int i = 0; i < n; i++) {
+                    x.set(i, code >> i & 1);
+                }
+                for (int i = 0; i < n + 10; i++) {
+                    Check.due("sharp(" + i + ") with " + code + " of " + n, x.sharp(i), x.value(i));
+                }
+            }
+        }
     }
 
     /** "SHARP .. 0 or 1 if it is so in all LEGAL WORLDS": others do not count. */
@@ -308,8 +331,8 @@ public final class WorldsEdgeTest {
         Check.due("gainsaid() with 13 again", x.gainsaid(), -2);
     }
 
-    /** "The k-th NODE (by number) at which there is a FLICKER": also the last of sixty, by the 59th. */
-    private static void flickerOfTheLastNode() {
+    /** "The k-th NODE (by number) at which there is a FLICKER": the last of sixty and the first. */
+    private static void flickerOfTheLastAndTheFirst() {
         String text = Check.inputs(57) + ";n=not(n56);a=and(n56,n);b=or(n56,n);";
         GateWheel x = Check.bench(text);
         for (int v = 0; v <= 1; v++) {
@@ -318,6 +341,9 @@ public final class WorldsEdgeTest {
             Check.due("flicker(56, 1)", x.flicker(56, 1), 59);
             Check.due("flicker(56, 2)", x.flicker(56, 2), -1);
         }
+        GateWheel y = Check.bench("g=and(a,n);n=not(a);in a;");
+        y.set(2, 1);
+        Check.due("flicker(2, 0), of the first NODE", y.flicker(2, 0), 0);
     }
 
     /** "a NODE that is the same 0 or 1 with both, but UNKNOWN with the INPUT UNKNOWN". */
