@@ -1139,10 +1139,15 @@ public final class GateWheel {
             return changes;
         }
 
+        /** Behind very many calls the time wraps around and is below 0, and a plain remainder would be, too. */
+        private static int slotAt(int node, int when) {
+            return node * SLOTS + Math.floorMod(when, SLOTS);
+        }
+
         private int arrive(Circuit circuit) {
             int changes = 0;
             for (int i = 0; i < circuit.count; i++) {
-                int slot = i * SLOTS + time % SLOTS;
+                int slot = slotAt(i, time);
                 if (slots[slot] != NONE) {
                     changes += change(i, slots[slot]);
                     slots[slot] = NONE;
@@ -1183,7 +1188,7 @@ public final class GateWheel {
                 return;
             }
             lastTold[gate] = v;
-            int slot = gate * SLOTS + (time + circuit.delays[gate]) % SLOTS;
+            int slot = slotAt(gate, time + circuit.delays[gate]);
             if (slots[slot] == NONE) {
                 toCome++;
             }

@@ -262,7 +262,6 @@ final class Model {
     /** Of INPUTS and REGISTERS. */
     private final Map<Integer, Integer> sources = new HashMap<>();
 
-
     int size() {
         return net.nodes.size();
     }
@@ -270,6 +269,26 @@ final class Model {
     void tape(String text) {
         tape.setLength(0);
         tape.append(text);
+    }
+
+    int feed(int... numbers) {
+        if (tape.length() + 20 > 2000) {
+            return -1;
+        }
+        for (int n : numbers) {
+            for (int i = 3; i >= 0; i--) {
+                tape.append((char) (n >>> 8 * i & 255));
+            }
+        }
+        return tape.length();
+    }
+
+    int end(int n) {
+        if (n < 0 || n > tape.length()) {
+            return -1;
+        }
+        tape.setLength(n);
+        return n;
     }
 
     int read() {

@@ -15,6 +15,8 @@ public final class ModelTest {
     private final GateWheel x = new GateWheel();
     private final Model m = new Model();
     private final List<String> told = new ArrayList<>();
+    /** In how many places the latest text was spoilt, as far as is known. */
+    private int spoils;
 
     private ModelTest(long seed) {
         random = new Random(seed);
@@ -26,6 +28,9 @@ public final class ModelTest {
         }
         for (int seed = 0; seed < 60; seed++) {
             new ModelTest(seed).playLarge("large " + seed);
+        }
+        for (int seed = 0; seed < 400; seed++) {
+            new ModelTest(seed).playOn("session " + seed);
         }
         int good = 0;
         for (int seed = 0; seed < 30000; seed++) {
@@ -117,8 +122,13 @@ public final class ModelTest {
     }
 
     private boolean readSpoilt(String at) {
+        read(at, spoilt(4));
+        return x.fault(0) == 0 && spoils > 0;
+    }
+
+    private String spoilt(int most) {
         StringBuilder s = new StringBuilder(fitting(circuit(1 + below(12))));
-        int spoils = below(4);
+        spoils = below(most);
         for (int i = 0; i < spoils; i++) {
             int place = below(s.length() + 1);
             int end = Math.min(s.length(), place + below(3));
@@ -128,8 +138,7 @@ public final class ModelTest {
         if (below(10) == 0) {
             s.setLength(below(s.length() + 1));
         }
-        read(at, fitting(s.toString()));
-        return x.fault(0) == 0 && spoils > 0;
+        return fitting(s.toString());
     }
 
     private void play(String at, int size) {
@@ -171,6 +180,47 @@ public final class ModelTest {
             Check.due(at + ": sharp(" + last + ")", x.sharp(last), m.sharp(last));
             int input = below(free);
             Check.due(at + ": set(" + input + ", 1)", x.set(input, 1), m.set(input, 1));
+        }
+    }
+
+    /** One object reads one text behind another, with FAULTS or without; what lies on the TAPE is read too. */
+    private void playOn(String at) {
+        for (int i = 0; i < 12; i++) {
+            for (int texts = below(4) == 0 ? 2 : 1; texts > 0; texts--) {
+                feedAndEnd(at + ", text " + i, spoilt(2));
+            }
+            Check.due(at + ", text " + i + ": read()", x.read(), m.read());
+            for (int call = 0; call < 12; call++) {
+                step(at + ", text " + i + ", call " + call);
+            }
+            for (int what = -1; what < 3; what++) {
+                Check.due(at + ", text " + i + ": fault(" + what + ")", x.fault(what), m.fault(what));
+            }
+            for (int n = -1; n <= m.size(); n++) {
+                int what = below(6) - 1;
+                Check.due(at + ", text " + i + ": node(" + n + ", " + what + ")", x.node(n, what), m.node(n, what));
+                Check.due(at + ", text " + i + ": named", Check.node(x, name(n + 1)), m.named(name(n + 1)));
+            }
+        }
+    }
+
+    /** The text behind what the TAPE has; at times the end is left off, or the TAPE is emptied first. */
+    private void feedAndEnd(String at, String text) {
+        if (below(2) == 0) {
+            Check.due(at + ": end(0)", x.end(0), m.end(0));
+        }
+        int length = 0;
+        for (int i = 0; i < text.length(); i += 20) {
+            int[] n = new int[5];
+            for (int j = 0; j < 20; j++) {
+                n[j / 4] = n[j / 4] << 8 | (i + j < text.length() ? text.charAt(i + j) : ' ');
+            }
+            length = m.feed(n);
+            Check.due(at + ": feed", x.feed(n[0], n[1], n[2], n[3], n[4]), length);
+        }
+        int cut = length - below(3) * below(20);
+        if (below(3) > 0) {
+            Check.due(at + ": end(" + cut + ")", x.end(cut), m.end(cut));
         }
     }
 
